@@ -174,7 +174,8 @@ public final class LazyCounts {
             bringUpToDate();
         }
         int k = entries.open(object);
-        for (int slot = 0; slot < heap.slotsAt(first); slot++) {
+        int slots = heap.slotsAt(first);
+        for (int slot = 0; slot < slots; slot++) {
             entries.setBefore(k, slot, heap.inSlot(first, slot));
         }
     }
@@ -190,7 +191,8 @@ public final class LazyCounts {
 
     private void countChangesOf(int k) {
         int first = heap.firstCellOf(entries.objectOf(k));
-        for (int slot = 0; slot < heap.slotsAt(first); slot++) {
+        int slots = heap.slotsAt(first);
+        for (int slot = 0; slot < slots; slot++) {
             heap.addToCount(entries.before(k, slot), -1);
             heap.addToCount(heap.inSlot(first, slot), 1);
         }

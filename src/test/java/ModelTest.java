@@ -12,7 +12,7 @@ import java.util.TreeSet;
 public final class ModelTest {
     private static final int RUNS = 600;
     private static final int CALLS = 512;
-    private static final int[] ODD = {Integer.MIN_VALUE, -3, -2, -1, 5, 8, 9, 48, Integer.MAX_VALUE};
+    private static final int[] ODD = {Integer.MIN_VALUE, -3, -2, -1, 0, 5, 8, 9, 48, Integer.MAX_VALUE};
     private static final Due due = new Due();
 
     private static long seed;
@@ -159,7 +159,7 @@ public final class ModelTest {
         return (int) ((seed >>> 33) % bound);
     }
 
-    /** An object of the model; nothing is null. */
+    /** An object of the model; where there is nothing, there is null. */
     private static final class Thing {
         final int number;
         final int cell;

@@ -58,13 +58,17 @@ public final class PromisesTest {
     }
 
     private static void dropAll() {
-        while (x.stack() > 0) {
+        dropDownTo(0);
+    }
+
+    private static void dropDownTo(int height) {
+        for (int places = x.stack(); places > height; places--) {
             x.drop();
         }
     }
 
     private static void fillStack() {
-        while (x.stack() < 8) {
+        for (int places = x.stack(); places < 8; places++) {
             x.copy(0);
         }
     }
@@ -236,12 +240,6 @@ public final class PromisesTest {
         due.is("reckonings() after FULL", x.reckonings(), 2);
         make(5, BAD);
         due.is("reckonings() after BAD", x.reckonings(), 2);
-    }
-
-    private static void dropDownTo(int height) {
-        while (x.stack() > height) {
-            x.drop();
-        }
     }
 
     private static void copies() {
