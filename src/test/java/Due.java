@@ -20,6 +20,14 @@ final class Due {
         is(what, got ? 1 : 0, want ? 1 : 0);
     }
 
+    void is(String what, String got, String want) {
+        asked++;
+        if (!got.equals(want)) {
+            wrong++;
+            System.out.println(topic + ": " + what + " is " + got + "; due is " + want);
+        }
+    }
+
     int wrong() {
         return wrong;
     }

@@ -1,13 +1,5 @@
 /** For each promise of the document: ordinary inputs, the edges that it names, wrong inputs. */
-public final class PromisesTest {
-    private static final int BAD = -1;
-    private static final int FULL = -2;
-    private static final int NONE = -3;
-    private static final int[] NEVER_A_PLACE = {Integer.MIN_VALUE, -2, -1, 8, Integer.MAX_VALUE};
-
-    private static final Due due = new Due();
-    private static LazyCounts x;
-
+public final class PromisesTest extends Bench {
     public static void main(String[] args) {
         aNewObject();
         makeNumbersAndLays();
@@ -34,50 +26,6 @@ public final class PromisesTest {
         logAndEntries();
         reckoningsAreCounted();
         due.end();
-    }
-
-    private static void begin(String topic) {
-        due.about(topic);
-        x = new LazyCounts();
-    }
-
-    private static void make(int slots, int want) {
-        due.is("make(" + slots + ")", x.make(slots), want);
-    }
-
-    private static void store(int place, int slot, int from, boolean want) {
-        due.is("store(" + place + ", " + slot + ", " + from + ")", x.store(place, slot, from), want);
-    }
-
-    private static void drop(int want) {
-        due.is("drop()", x.drop(), want);
-    }
-
-    private static void reckon(int want) {
-        due.is("reckon()", x.reckon(), want);
-    }
-
-    private static void dropAll() {
-        dropDownTo(0);
-    }
-
-    private static void dropDownTo(int height) {
-        for (int places = x.stack(); places > height; places--) {
-            x.drop();
-        }
-    }
-
-    private static void fillStack() {
-        for (int places = x.stack(); places < 8; places++) {
-            x.copy(0);
-        }
-    }
-
-    /** Leaves an entry in the log for a new object, and nothing on the stack. */
-    private static void makeNoted(int number) {
-        make(1, number);
-        store(x.stack() - 1, 0, -1, true);
-        drop(number);
     }
 
     private static void aNewObject() {
