@@ -7,7 +7,8 @@ import java.util.TreeSet;
 
 /**
  * Long runs of calls, the same ones each time, in which every answer and after every call the whole
- * state that can be asked for are compared with a model that follows the document word by word.
+ * state that can be asked for are compared with a model that follows the document word by word. With
+ * the questions these are more than the 512 calls of the document: the class has no need of that limit.
  */
 public final class ModelTest {
     private static final int RUNS = 600;

@@ -22,6 +22,7 @@ public final class PromiseEdgesTest extends Bench {
         sentence("1: an empty stack", PromiseEdgesTest::anEmptyStack);
         sentence("1: an empty table", PromiseEdgesTest::anEmptyTable);
         sentence("1: an empty log", PromiseEdgesTest::anEmptyLog);
+        sentence("1: a new object, whatever another has", PromiseEdgesTest::newBesideAnother);
         sentence("2: makes an object with this many slots", PromiseEdgesTest::makesThisManySlots);
         sentence("2: which hold nothing, count 0", PromiseEdgesTest::makesOverWhatLayThere);
         sentence("2: and pushes it on the stack: its number", PromiseEdgesTest::makePushes);
@@ -130,6 +131,26 @@ public final class PromiseEdgesTest extends Bench {
         reckonings(0);
     }
 
+    private static void newBesideAnother() {
+        LazyCounts older = x;
+        make(1, 1);
+        store(0, 0, 0, true);
+        makeUnheld(4, 2);
+        fresh();
+        noObjects();
+        fresh();
+        anEmptyStack();
+        anEmptyTable();
+        reckonings(1);
+        x = older;
+        reckonings(0);
+        stack(1);
+        log(1);
+        alive(2);
+        make(1, 3);
+        cell(3, 7);
+    }
+
     private static void makesThisManySlots() {
         for (int slots = 1; slots <= 4; slots++) {
             make(slots, slots);
@@ -228,18 +249,29 @@ public final class PromiseEdgesTest extends Bench {
         free(41);
 
         fresh();
-        makeUnheld(1, 1);
+        aFullHeapWithAHoleOfThreeToCome();
+        make(3, 12);
+        cell(12, 5);
+        make(2, 13);
+        cell(13, 0);
+        reckonings(1);
+
+        fresh();
+        aFullHeapWithAHoleOfThreeToCome();
+        make(2, 12);
+        cell(12, 0);
+        reckonings(1);
+    }
+
+    /** A reckoning then leaves 0 .. 2 and 5 .. 47 free. */
+    private static void aFullHeapWithAHoleOfThreeToCome() {
+        makeUnheld(2, 1);
         makeForEver(1, 2);
         for (int number = 3; number <= 10; number++) {
             makeUnheld(4, number);
         }
-        makeUnheld(3, 11);
+        makeUnheld(2, 11);
         free(0);
-        make(2, 12);
-        cell(12, 4);
-        make(1, 13);
-        cell(13, 0);
-        reckonings(1);
     }
 
     private static void makeBad() {

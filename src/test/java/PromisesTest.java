@@ -1,4 +1,4 @@
-/** For each promise of the document: ordinary inputs, the edges that it names, wrong inputs. */
+/** For each promise of the document runs of calls with ordinary and wrong inputs. */
 public final class PromisesTest extends Bench {
     public static void main(String[] args) {
         aNewObject();

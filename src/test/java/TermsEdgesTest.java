@@ -1,9 +1,10 @@
 /**
- * Each sentence under the document's "Terms" that names a boundary has a test of its own here, in
- * the document's order.
+ * Each sentence before the promises that names a boundary, most of them under "Terms", has a test
+ * of its own here, in the document's order.
  */
 public final class TermsEdgesTest extends Bench {
     public static void main(String[] args) {
+        sentence("At most 512 calls", TermsEdgesTest::allOf512Calls);
         theHeap();
         theStackTheTableAndTheLog();
         aReckoning();
@@ -76,6 +77,19 @@ public final class TermsEdgesTest extends Bench {
         sentence("A refused call changes nothing: store", TermsEdgesTest::aRefusedStore);
         sentence("A refused call changes nothing: drop", TermsEdgesTest::aRefusedDrop);
         sentence("A refused call changes nothing: questions", TermsEdgesTest::aRefusedQuestion);
+    }
+
+    private static void allOf512Calls() {
+        for (int number = 1; number <= 256; number++) {
+            make(1, number);
+            drop(number);
+        }
+
+        fresh();
+        for (int call = 1; call <= 511; call++) {
+            reckon(0);
+        }
+        reckonings(511);
     }
 
     private static void theHeapHas48Cells() {
@@ -433,9 +447,11 @@ public final class TermsEdgesTest extends Bench {
         count(0, NONE);
         store(0, 0, 1, true);
         reckon(0);
+        count(1, 0);
         count(2, 1);
         store(0, 0, -1, true);
         reckon(0);
+        count(1, 0);
         count(2, 0);
         table(2);
     }
