@@ -1,4 +1,4 @@
-/** For each promise of the document runs of calls with ordinary and wrong inputs. */
+/** For each promise of the document runs of calls with ordinary and wrong inputs, and README.md's example. */
 public final class PromisesTest extends Bench {
     public static void main(String[] args) {
         aNewObject();
@@ -25,6 +25,7 @@ public final class PromisesTest extends Bench {
         tableAndState();
         logAndEntries();
         reckoningsAreCounted();
+        theExampleOfTheReadme();
         due.end();
     }
 
@@ -727,5 +728,19 @@ public final class PromisesTest extends Bench {
         due.is("reckonings() while there is room", x.reckonings(), 3);
         make(4, 16);
         due.is("reckonings() by make()", x.reckonings(), 4);
+    }
+
+    private static void theExampleOfTheReadme() {
+        begin("README.md");
+        make(2, 1);
+        make(1, 2);
+        store(0, 0, 1, true);
+        count(2, 0);
+        reckon(0);
+        count(2, 1);
+        drop(2);
+        reckon(0);
+        drop(1);
+        reckon(2);
     }
 }
